@@ -224,6 +224,8 @@ public final class AshMetals {
         if (first.gone || second.gone || first.wasRun != second.wasRun) {
             return NONE;
         }
+        first.gone = true;
+        second.gone = true;
         return keepBatch(mixtureOf(first, second));
     }
 
@@ -290,8 +292,6 @@ public final class AshMetals {
             mixture.amounts[metal] = first.amounts[metal] + second.amounts[metal];
         }
         mixture.wasRun = first.wasRun && second.wasRun;
-        first.gone = true;
-        second.gone = true;
         return mixture;
     }
 
