@@ -61,7 +61,7 @@ public final class ModelTest {
             case "worth": return of(up(8), day());
             case "sell": return of(up(6));
             case "money": return of();
-            case "assay": return of(up(8), up(3), up(4), random.nextInt(3) == 0 ? parts() : 80 + random.nextInt(40));
+            case "assay": return of(up(8), up(3), up(4), random.nextInt(3) == 0 ? parts() : 80 + random.nextInt(60));
             case "tolerance": return of(parts());
             case "rule": return of(up(10), up(4), parts(), random.nextInt(2) == 0 ? 0 : day());
             case "mix": return of(up(8), up(8));
