@@ -61,8 +61,8 @@ public final class ModelTest {
             case "worth": return of(up(8), day());
             case "sell": return of(up(6));
             case "money": return of();
-            case "assay": return of(up(8), up(3), up(4), random.nextInt(3) == 0 ? parts() : 80 + random.nextInt(60));
-            case "tolerance": return of(parts());
+            case "assay": return of(up(8), up(3), assayedMetal(), assayedParts());
+            case "tolerance": return of(random.nextInt(3) == 0 ? parts() : 48 + random.nextInt(5));
             case "rule": return of(up(10), up(4), parts(), random.nextInt(2) == 0 ? 0 : day());
             case "mix": return of(up(8), up(8));
             default: throw new IllegalArgumentException(name);
@@ -124,6 +124,17 @@ public final class ModelTest {
             return random.nextInt(2) == 0 ? 1000001 : far();
         }
         return random.nextInt(2) == 0 ? PARTS[random.nextInt(PARTS.length)] : random.nextInt(1000001);
+    }
+
+    /** Few metals, so that often all three labs tell of the same one. */
+    private long assayedMetal() {
+        return random.nextInt(4) == 0 ? up(4) : random.nextInt(2);
+    }
+
+    /** Mostly about the first tolerance apart. */
+    private long assayedParts() {
+        long[] all = {100, 101, 125, 149, 150, 151, 152};
+        return random.nextInt(5) == 0 ? parts() : all[random.nextInt(all.length)];
     }
 
     private long day() {
