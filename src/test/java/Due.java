@@ -1,13 +1,20 @@
+import java.lang.reflect.InvocationTargetException;
+import java.lang.reflect.Method;
+import java.lang.reflect.Modifier;
+import java.util.Arrays;
+import java.util.Comparator;
+
 /** Compares answers with those that are due, tells each that differs, and ends the test. */
 final class Due {
     private int wrong;
     private int seen;
+    private String where = "";
 
     void is(String call, long got, long want) {
         seen++;
         if (got != want) {
             wrong++;
-            System.out.println(call + " answered " + got + ", due is " + want);
+            System.out.println(where + call + " answered " + got + ", due is " + want);
         }
     }
 
@@ -29,6 +36,34 @@ final class Due {
 
     int wrongSoFar() {
         return wrong;
+    }
+
+    /** Runs every method of a test that takes and answers nothing, so that none can be forgotten. */
+    void runAll(Object test) {
+        Method[] all = test.getClass().getDeclaredMethods();
+        Arrays.sort(all, Comparator.comparing(Method::getName));
+        for (Method each : all) {
+            boolean plain = each.getParameterCount() == 0 && each.getReturnType() == void.class;
+            if (plain && !Modifier.isStatic(each.getModifiers()) && !each.isSynthetic()) {
+                runOne(test, each);
+            }
+        }
+        end();
+    }
+
+    private void runOne(Object test, Method each) {
+        where = each.getName() + ": ";
+        int before = seen;
+        try {
+            each.setAccessible(true);
+            each.invoke(test);
+        } catch (IllegalAccessException | InvocationTargetException e) {
+            throw new IllegalStateException(each.getName(), e);
+        }
+        if (seen == before) {
+            wrong++;
+            System.out.println(where + "looked at nothing");
+        }
     }
 
     void end() {

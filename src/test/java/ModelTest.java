@@ -1,4 +1,3 @@
-import java.util.Arrays;
 import java.util.Random;
 
 /** Drawn runs of calls, from fixed seeds, each answer held against the model's. */
@@ -39,12 +38,12 @@ public final class ModelTest {
         for (int i = 0; i < CALLS; i++) {
             String[] names = i < CALLS_THAT_BUILD ? NAMES : ASKS;
             String name = names[random.nextInt(names.length)];
-            compare(seed, name, argumentsFor(name));
+            compare(seed, new Call(name, argumentsFor(name)));
         }
     }
 
-    private void compare(int seed, String name, long[] a) {
-        due.is("seed " + seed + ": " + name + Arrays.toString(a), answer(name, a), model.call(name, a));
+    private void compare(int seed, Call call) {
+        due.is("seed " + seed + ": " + call, call.on(real), model.call(call.name, call.arguments));
     }
 
     private long[] argumentsFor(String name) {
@@ -65,37 +64,6 @@ public final class ModelTest {
             case "tolerance": return of(random.nextInt(3) == 0 ? parts() : 48 + random.nextInt(5));
             case "rule": return of(up(10), up(4), parts(), random.nextInt(2) == 0 ? 0 : day());
             case "mix": return of(up(8), up(8));
-            default: throw new IllegalArgumentException(name);
-        }
-    }
-
-    private long answer(String name, long[] a) {
-        int[] i = new int[4];
-        for (int k = 0; k < a.length; k++) {
-            i[k] = (int) a[k];
-        }
-        switch (name) {
-            case "batch": return real.batch(a[0]);
-            case "parts": return real.parts(i[0], i[1], i[2]) ? 1 : 0;
-            case "today": return real.today(i[0]) ? 1 : 0;
-            case "stage": return real.stage(i[0], i[1], i[2]);
-            case "run": return real.run(i[0]);
-            case "taken": return real.taken(i[0], i[1], i[2]);
-            case "left": return real.left(i[0], i[1]);
-            case "grams": return real.grams(i[0]);
-            case "stock": return real.stock(i[0], i[1]);
-            case "price": return real.price(i[0], i[1], a[2]) ? 1 : 0;
-            case "worth": return real.worth(i[0], i[1]);
-            case "sell": return real.sell(i[0]);
-            case "money": return real.money();
-            case "assay": return real.assay(i[0], i[1], i[2], i[3]) ? 1 : 0;
-            case "settled": return real.settled(i[0], i[1]);
-            case "disputed": return real.disputed(i[0], i[1]) ? 1 : 0;
-            case "tolerance": return real.tolerance(i[0]) ? 1 : 0;
-            case "rule": return real.rule(i[0], i[1], i[2], i[3]);
-            case "cls": return real.cls(i[0]);
-            case "mix": return real.mix(i[0], i[1]);
-            case "dispute": return real.dispute(i[0]);
             default: throw new IllegalArgumentException(name);
         }
     }

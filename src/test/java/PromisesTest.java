@@ -9,35 +9,7 @@ public final class PromisesTest {
 
     public static void main(String[] args) {
         PromisesTest test = new PromisesTest();
-        test.promise1NewObject();
-        test.promise2Batch();
-        test.promise3Parts();
-        test.promise4Today();
-        test.promise5Stage();
-        test.promise6Run();
-        test.promise6RunTakesGramsStageByStage();
-        test.promise7Taken();
-        test.promise8Left();
-        test.promise9Grams();
-        test.promise10Stock();
-        test.promise11Price();
-        test.promise12Worth();
-        test.promise12WorthOfTheMost();
-        test.promise13Sell();
-        test.promise14Money();
-        test.promise15Assay();
-        test.promise16Settled();
-        test.promise17Disputed();
-        test.promise18Tolerance();
-        test.promise19Rule();
-        test.promise20Cls();
-        test.promise20ClsFirstRule();
-        test.promise21Mix();
-        test.promise21MixRefused();
-        test.promise21MixOfTheMost();
-        test.promise22Dispute();
-        test.promise22DisputeOfAllBatches();
-        test.due.end();
+        test.due.runAll(test);
     }
 
     private void promise1NewObject() {
