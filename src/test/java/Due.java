@@ -4,8 +4,10 @@ import java.lang.reflect.Modifier;
 import java.util.Arrays;
 import java.util.Comparator;
 
-/** Compares answers with those that are due, tells each that differs, and ends the test. */
+/** Compares answers with those that are due, tells those that differ, and ends the test. */
 final class Due {
+    private static final int MOST_TOLD = 100;
+
     private int wrong;
     private int seen;
     private String where = "";
@@ -13,8 +15,7 @@ final class Due {
     void is(String call, long got, long want) {
         seen++;
         if (got != want) {
-            wrong++;
-            System.out.println(where + call + " answered " + got + ", due is " + want);
+            tell(call + " answered " + got + ", due is " + want);
         }
     }
 
@@ -61,8 +62,14 @@ final class Due {
             throw new IllegalStateException(each.getName(), e);
         }
         if (seen == before) {
-            wrong++;
-            System.out.println(where + "looked at nothing");
+            tell("looked at nothing");
+        }
+    }
+
+    private void tell(String what) {
+        wrong++;
+        if (wrong <= MOST_TOLD) {
+            System.out.println(where + what);
         }
     }
 

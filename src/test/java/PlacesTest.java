@@ -321,8 +321,6 @@ public final class PlacesTest {
     }
 
     private static void tellAll(AshMetals x, int batch, int metal, int parts) {
-        for (int lab = 0; lab < 3; lab++) {
-            x.assay(batch, lab, metal, parts);
-        }
+        Scenes.tell(x, batch, metal, parts, parts, parts);
     }
 }

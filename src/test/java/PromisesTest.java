@@ -417,7 +417,7 @@ public final class PromisesTest {
     private void promise15Assay() {
         AshMetals x = new AshMetals();
         x.batch(1);
-        tell(x, 0, 0, 10, 20, 30);
+        Scenes.tell(x, 0, 0, 10, 20, 30);
         int[] wrongLabs = {-1, 3, Integer.MIN_VALUE, Integer.MAX_VALUE};
         for (int lab : wrongLabs) {
             due.no("p15 lab " + lab, x.assay(0, lab, 0, 5));
@@ -438,7 +438,7 @@ public final class PromisesTest {
         due.is("p15 told again", x.settled(0, 0), 20);
         x.batch(1);
         x.mix(0, 1);
-        due.no("p15 gone", x.assay(0, 0, 0, 25));
+        due.no("p15 gone", x.assay(0, 1, 0, 25));
         due.is("p15 gone keeps", x.settled(0, 0), 20);
         due.yes("p15 mixed", x.assay(2, 0, 0, 25));
         x.run(2);
@@ -451,7 +451,7 @@ public final class PromisesTest {
         x.batch(1);
         int[][] orders = {{1, 2, 3}, {1, 3, 2}, {2, 1, 3}, {2, 3, 1}, {3, 1, 2}, {3, 2, 1}, {2, 2, 3}, {1, 2, 2}, {2, 1, 2}};
         for (int[] order : orders) {
-            tell(x, 0, 2, order[0], order[1], order[2]);
+            Scenes.tell(x, 0, 2, order[0], order[1], order[2]);
             due.is("p16 middle", x.settled(0, 2), 2);
         }
         for (int told = 0; told < 7; told++) {
@@ -464,7 +464,7 @@ public final class PromisesTest {
             }
             due.none("p16 not by all three: " + told, y.settled(0, 1));
         }
-        tell(x, 0, 0, 0, 0, 0);
+        Scenes.tell(x, 0, 0, 0, 0, 0);
         due.is("p16 nothing is settled as nothing", x.settled(0, 0), 0);
         due.none("p16 another metal", x.settled(0, 1));
         for (int number : WRONG_NUMBERS) {
@@ -473,7 +473,7 @@ public final class PromisesTest {
         for (int metal : WRONG_METALS) {
             due.none("p16 metal " + metal, x.settled(0, metal));
         }
-        tell(x, 0, 3, 0, 500, 1000000);
+        Scenes.tell(x, 0, 3, 0, 500, 1000000);
         due.is("p16 disputed is settled too", x.settled(0, 3), 500);
         x.batch(1);
         x.mix(0, 1);
@@ -488,13 +488,13 @@ public final class PromisesTest {
         x.assay(0, 0, 0, 0);
         x.assay(0, 2, 0, 1000);
         due.no("p17 not all told", x.disputed(0, 0));
-        tell(x, 0, 0, 100, 150, 120);
+        Scenes.tell(x, 0, 0, 100, 150, 120);
         due.no("p17 just the tolerance", x.disputed(0, 0));
-        tell(x, 0, 0, 100, 151, 120);
+        Scenes.tell(x, 0, 0, 100, 151, 120);
         due.yes("p17 more", x.disputed(0, 0));
-        tell(x, 0, 0, 120, 100, 151);
+        Scenes.tell(x, 0, 0, 120, 100, 151);
         due.yes("p17 more, another order", x.disputed(0, 0));
-        tell(x, 0, 0, 151, 120, 100);
+        Scenes.tell(x, 0, 0, 151, 120, 100);
         due.yes("p17 more, another order", x.disputed(0, 0));
         due.no("p17 another metal", x.disputed(0, 1));
         for (int number : WRONG_NUMBERS) {
@@ -512,7 +512,7 @@ public final class PromisesTest {
     private void promise18Tolerance() {
         AshMetals x = new AshMetals();
         x.batch(1);
-        tell(x, 0, 0, 0, 0, 51);
+        Scenes.tell(x, 0, 0, 0, 0, 51);
         due.yes("p18 50 at first", x.disputed(0, 0));
         due.yes("p18 more", x.tolerance(51));
         due.no("p18 more", x.disputed(0, 0));
@@ -520,15 +520,15 @@ public final class PromisesTest {
             due.no("p18 tolerance " + parts, x.tolerance(parts));
         }
         due.no("p18 refused changes nothing", x.disputed(0, 0));
-        tell(x, 0, 0, 0, 0, 52);
+        Scenes.tell(x, 0, 0, 0, 0, 52);
         due.yes("p18 refused changes nothing", x.disputed(0, 0));
         due.yes("p18 none", x.tolerance(0));
-        tell(x, 0, 0, 7, 7, 7);
+        Scenes.tell(x, 0, 0, 7, 7, 7);
         due.no("p18 none, all the same", x.disputed(0, 0));
-        tell(x, 0, 0, 7, 7, 8);
+        Scenes.tell(x, 0, 0, 7, 7, 8);
         due.yes("p18 none", x.disputed(0, 0));
         due.yes("p18 most", x.tolerance(1000000));
-        tell(x, 0, 0, 0, 0, 1000000);
+        Scenes.tell(x, 0, 0, 0, 0, 1000000);
         due.no("p18 most", x.disputed(0, 0));
     }
 
@@ -567,7 +567,7 @@ public final class PromisesTest {
         due.is("p20 no rules", x.cls(0), 99);
         x.rule(4, 1, 20, 3);
         due.is("p20 not settled", x.cls(0), 99);
-        tell(x, 0, 1, 0, 20, 50);
+        Scenes.tell(x, 0, 1, 0, 20, 50);
         due.is("p20 too young", x.cls(0), 99);
         x.today(102);
         due.is("p20 too young", x.cls(0), 99);
@@ -596,13 +596,13 @@ public final class PromisesTest {
         x.rule(7, 0, 10, 0);
         x.rule(5, 3, 1000000, 0);
         x.rule(0, 0, 1000000, 0);
-        tell(x, 0, 3, 0, 0, 1000);
+        Scenes.tell(x, 0, 3, 0, 0, 1000);
         due.is("p20 disputed", x.cls(0), 99);
-        tell(x, 0, 0, 11, 11, 11);
+        Scenes.tell(x, 0, 0, 11, 11, 11);
         due.is("p20 the third", x.cls(0), 0);
-        tell(x, 0, 3, 3, 3, 3);
+        Scenes.tell(x, 0, 3, 3, 3, 3);
         due.is("p20 the second", x.cls(0), 5);
-        tell(x, 0, 0, 10, 10, 10);
+        Scenes.tell(x, 0, 0, 10, 10, 10);
         due.is("p20 the first", x.cls(0), 7);
     }
 
@@ -615,8 +615,8 @@ public final class PromisesTest {
         x.batch(4);
         x.parts(1, 1, 11);
         x.parts(1, 3, 13);
-        tell(x, 0, 0, 1, 1, 1);
-        tell(x, 1, 0, 1, 1, 1);
+        Scenes.tell(x, 0, 0, 1, 1, 1);
+        Scenes.tell(x, 1, 0, 1, 1, 1);
         x.rule(6, 0, 1000000, 1);
         due.is("p21 mixed", x.mix(1, 0), 2);
         due.is("p21 grams together", x.grams(2), 7);
@@ -627,7 +627,7 @@ public final class PromisesTest {
         due.none("p21 no assays", x.settled(2, 0));
         due.none("p21 gone", x.cls(0));
         due.none("p21 gone", x.cls(1));
-        tell(x, 2, 0, 1, 1, 1);
+        Scenes.tell(x, 2, 0, 1, 1, 1);
         due.is("p21 the later day", x.cls(2), 99);
         x.today(10);
         due.is("p21 the later day", x.cls(2), 6);
@@ -684,11 +684,11 @@ public final class PromisesTest {
             x.batch(1);
         }
         due.none("p22 none", x.dispute(0));
-        tell(x, 4, 3, 0, 0, 51);
-        tell(x, 1, 0, 0, 51, 0);
-        tell(x, 1, 2, 0, 51, 0);
-        tell(x, 2, 2, 51, 0, 0);
-        tell(x, 3, 1, 50, 0, 0);
+        Scenes.tell(x, 4, 3, 0, 0, 51);
+        Scenes.tell(x, 1, 0, 0, 51, 0);
+        Scenes.tell(x, 1, 2, 0, 51, 0);
+        Scenes.tell(x, 2, 2, 51, 0, 0);
+        Scenes.tell(x, 3, 1, 50, 0, 0);
         due.is("p22 by numbers", x.dispute(0), 1);
         due.is("p22 each batch once", x.dispute(1), 2);
         due.is("p22 the last metal", x.dispute(2), 4);
@@ -710,18 +710,12 @@ public final class PromisesTest {
         AshMetals x = new AshMetals();
         for (int i = 0; i < 8; i++) {
             x.batch(1);
-            tell(x, i, i % 4, 0, 0, 51);
+            Scenes.tell(x, i, i % 4, 0, 0, 51);
         }
         for (int k = 0; k < 8; k++) {
             due.is("p22 all of eight", x.dispute(k), k);
         }
         due.none("p22 there is no ninth", x.dispute(8));
-    }
-
-    private static void tell(AshMetals x, int batch, int metal, int first, int second, int third) {
-        x.assay(batch, 0, metal, first);
-        x.assay(batch, 1, metal, second);
-        x.assay(batch, 2, metal, third);
     }
 
     /** Batch 6 is then the greatest that eight batches can give. */
