@@ -22,9 +22,13 @@ public final class FaceTest {
         due.yes("the class is public", Modifier.isPublic(kind));
         due.yes("the class is final", Modifier.isFinal(kind));
         due.is("NONE", AshMetals.NONE, -1);
+        due.yes("the class has no package", AshMetals.class.getPackageName().isEmpty());
+        due.yes("the class extends nothing", AshMetals.class.getSuperclass() == Object.class);
+        due.is("the class implements nothing", AshMetals.class.getInterfaces().length, 0);
         methods(due);
         fields(due);
         constructors(due);
+        classesInside(due);
         due.end();
     }
 
@@ -42,6 +46,7 @@ public final class FaceTest {
             }
             due.yes(each + " is public", Modifier.isPublic(each.getModifiers()));
             due.no(each + " is static", Modifier.isStatic(each.getModifiers()));
+            due.is(each + " declares exceptions", each.getExceptionTypes().length, 0);
             shown.add(each.getReturnType() + " " + each.getName() + types(each.getParameterTypes()));
         }
         due.yes("methods are " + shown, shown.equals(wanted));
@@ -54,6 +59,21 @@ public final class FaceTest {
             due.is(each + " is public", Modifier.isPublic(kind), constant);
             due.is(each + " is private", Modifier.isPrivate(kind), !constant);
             due.no(each + " is static state", Modifier.isStatic(kind) && !Modifier.isFinal(kind));
+            if (constant) {
+                due.yes("NONE is static and final", Modifier.isStatic(kind) && Modifier.isFinal(kind));
+                due.yes("NONE is an int", each.getType() == int.class);
+            }
+        }
+    }
+
+    private static void classesInside(Due due) {
+        for (Class<?> each : AshMetals.class.getDeclaredClasses()) {
+            int kind = each.getModifiers();
+            due.no(each + " is public or protected", Modifier.isPublic(kind) || Modifier.isProtected(kind));
+            due.yes(each + " is static", Modifier.isStatic(kind));
+            for (Field field : each.getDeclaredFields()) {
+                due.no(field + " is static", Modifier.isStatic(field.getModifiers()));
+            }
         }
     }
 
