@@ -389,7 +389,7 @@ public final class SentencesTest {
         due.is("behind it", x.worth(0, 0), 1090);
     }
 
-    // Sales.
+    // "comes to the money; the stock is nothing then", and "All cents of sales".
 
     private void promise13AStockFillsAgainBehindASale() {
         AshMetals x = new AshMetals();
@@ -518,9 +518,10 @@ public final class SentencesTest {
         x.batch(1);
         x.today(100);
         x.mix(0, 1);
-        x.rule(1, 0, 0, 97);
+        x.rule(1, 0, 0, 98);
+        x.rule(2, 0, 0, 97);
         Scenes.tell(x, 2, 0, 0, 0, 0);
-        due.is("97 days", x.cls(2), 1);
+        due.is("97 days", x.cls(2), 2);
     }
 
     private void termsAMixOfMixedOnesOfWhichOneWasRun() {
@@ -557,7 +558,7 @@ public final class SentencesTest {
         due.is("gone, but it was run", x.taken(5, 0, 0), 1000000);
     }
 
-    // "it is DISPUTED when ..", "settled", "disputed" and "dispute" of batches that are gone.
+    // "Whether it is disputed", and "the k-th batch .. that is not gone and of which some metal is disputed".
 
     private void promise17ABatchThatIsGoneIsStillDisputed() {
         AshMetals x = new AshMetals();
